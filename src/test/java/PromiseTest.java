@@ -597,6 +597,17 @@ public final class PromiseTest {
         due("one call fits, the other does not", x.fits(0, cards("c43 h43 s4")), 0);
         due("the other call fits, the one does not", x.fits(0, cards("d43 h43 s4")), 0);
         due("both calls fit", x.fits(0, cards("c4 d3 h43 s4")), 1);
+        due("the calls of the other do not matter", x.fits(0, cards("c4 d3 h43 s4")), 1);
+        due("hands of 0, by both its calls", x.hands(0, 0), ALL - 2 * 3003 + 252);
+        due("hands of 1", x.hands(1, 0), ALL);
+        x.begin();
+        x.make(1);
+        x.make(2);
+        due("hands of 0 if only 1 shows something", x.hands(0, 0), 3003);
+        due("hands of 1", x.hands(1, 0), ALL - 3003);
+        x.begin();
+        x.make(0);
+        x.make(1);
         due("the first open rule is not that of the call", x.fits(1, cards("d43 h43 s4")), 1);
         x.begin();
         x.make(0);
@@ -636,7 +647,9 @@ public final class PromiseTest {
         dueAuction("after reach", x, 1, 1, 4, 1, 1, 0);
         x.limit(0, 0, 0, 5);
         due("reach of a rule that says nothing", x.reach(1), 0);
-        due("reach(5)", x.reach(5), NO_SUCH);
+        x.rule(3, 0, 0, 0);
+        due("reach of the lowest bid", x.reach(5), ALL);
+        due("reach(6)", x.reach(6), NO_SUCH);
         due("reach(-1)", x.reach(-1), NO_SUCH);
     }
 
@@ -649,6 +662,10 @@ public final class PromiseTest {
         due("holes of 1 when forced, last bid 24", x.holes(1, 24, 1), ALL);
         due("holes of 0 when forced, last bid 3", x.holes(0, 3, 1), 3003 + 6825);
         due("holes of 0 when forced, last bid 4", x.holes(0, 4, 1), ALL);
+        x.rule(7, 0, 0, 0);
+        due("holes with the lowest bid", x.holes(7, NONE, 1), 0);
+        due("holes without the lowest bid", x.holes(7, 0, 1), ALL);
+        x.remove(5);
         due("holes of a state without rules", x.holes(7, NONE, 0), ALL);
         due("holes(-1, 0, 0)", x.holes(-1, 0, 0), BAD_VALUE);
         due("holes(8, 0, 0)", x.holes(8, 0, 0), BAD_VALUE);
@@ -764,6 +781,7 @@ public final class PromiseTest {
         x.make(0);
         due("contract with no hands", x.contract(1), NONE);
         contractOfFew();
+        contractOfSuit();
         contractOfNothing();
         due("contract(2)", x.contract(2), NO_SUCH);
         due("contract(-1)", x.contract(-1), NO_SUCH);
@@ -778,6 +796,23 @@ public final class PromiseTest {
         due("expected(0, 1)", x.expected(0, 1), 58);
         due("expected(0, 2)", x.expected(0, 2), 63);
         due("contract of few", x.contract(0), 17);
+    }
+
+    /** Only the lowest suit lets both partners ruff. */
+    private static void contractOfSuit() {
+        BidLanguage x = new BidLanguage();
+        x.rule(0, 0, 1, 0);
+        x.limit(0, 0, 2, 2);
+        x.limit(0, 1, 3, 3);
+        x.limit(0, 4, 4, 4);
+        due("give", x.give(1, cards("s01234")), 992);
+        due("give", x.give(0, cards("c01 d012")), 31);
+        due("give", x.give(1, cards("c23 h013")), cards("s01234"));
+        x.make(0);
+        due("hands", x.hands(0, x.hand(1, 0)), 1);
+        due("expected(1, 0)", x.expected(1, 0), 2);
+        due("expected(1, 1)", x.expected(1, 1), 1);
+        due("contract", x.contract(1), 5);
     }
 
     /** Hands with no highest card, alike in their lengths: no tricks at all. Then with all cards: 400 by 192 hands. */
@@ -881,6 +916,10 @@ public final class PromiseTest {
         dueFault("0:1c>0!!", 7);
         dueFault("0:1c>0.", 6);
         dueFault("0:1c>!", 5);
+        dueFault("/:1c>0", 0);
+        dueFault(":1c>0", 0);
+        dueFault("0:/c>0", 2);
+        dueFault("0:1c>/", 5);
     }
 
     private static void faultOfConditions() {
@@ -929,6 +968,11 @@ public final class PromiseTest {
         dueFault("0:p>0,+30", 8);
         dueFault("0:p>0,+05-9", 8);
         dueFault("0:p>0,+1:", 8);
+        dueFault("0:p>0,+/", 7);
+        dueFault("0:p>0,+:", 7);
+        dueFault("0:p>0,+1/", 8);
+        dueFault("0:p>0,+1-/", 9);
+        dueFault("0:p>0,+1-1/", 10);
         dueFault("0:p>0,+200", 9);
         dueFault("0:p>0,+1-21", 10);
         dueFault("0:p>0,+1-200", 11);
