@@ -559,9 +559,9 @@ public final class BidLanguage {
 
         /** All measures of a hand in one number, as Rule.admits() compares them. */
         static int profile(int hand) {
-            int profile = 0;
-            for (int what = 0; what < MEASURES; what++) {
-                profile |= measure(hand, what) << (Rule.WIDTH * what);
+            int profile = strength(hand) << (Rule.WIDTH * STRENGTH);
+            for (int suit = 0; suit < SUITS; suit++) {
+                profile |= Integer.bitCount(ofSuit(hand, suit)) << (Rule.WIDTH * suit);
             }
             return profile;
         }
@@ -787,7 +787,8 @@ public final class BidLanguage {
                 return false;
             }
             for (int i = 0; i < MOST_CHARACTERS && at < text.length(); i++) {
-                if (!readsCondition()) {
+                int what = readKind();
+                if (what == FAILED || !readsRange(what)) {
                     return false;
                 }
             }
@@ -827,17 +828,18 @@ public final class BidLanguage {
             return (tricks - 1) * 5 + strain;
         }
 
-        private boolean readsCondition() {
+        /** Reads how a condition begins, and answers the measure that it is on. */
+        private int readKind() {
             if (!reads(',')) {
-                return false;
+                return FAILED;
             }
             int what = sign() == '+' ? STRENGTH : suitOfSign();
             if (what == FAILED || ((limited >> what) & 1) == 1) {
-                return false;
+                return FAILED;
             }
             at++;
             limited |= 1 << what;
-            return readsRange(what);
+            return what;
         }
 
         private boolean readsRange(int what) {
