@@ -1,82 +1,5 @@
 /** Each promise of the document by answers that were found by hand: ordinary inputs, edges and wrong inputs. */
-public final class PromiseTest {
-    private static final int NO_SUCH = -1, BAD_VALUE = -2, BAD_TEXT = -3, TOO_MANY = -4, NOT_POSSIBLE = -5, NONE = -6;
-    private static final int PASS = 25;
-    private static final int ALL = 15504;
-    private static final int ALL_CARDS = 1048575;
-
-    private static int wrong = 0;
-    private static int asked = 0;
-
-    private static void due(String what, long got, long want) {
-        asked++;
-        if (got != want) {
-            wrong++;
-            System.out.println(what + " answered " + got + ", due is " + want);
-        }
-    }
-
-    /** A hand written as one character a card: the rank, with the suits c, d, h, s before their ranks: "c43 s210". */
-    private static int cards(String text) {
-        int set = 0;
-        int suit = 0;
-        for (char sign : text.toCharArray()) {
-            int found = "cdhs".indexOf(sign);
-            if (found >= 0) {
-                suit = found;
-            } else if (sign != ' ') {
-                set |= 1 << (5 * suit + sign - '0');
-            }
-        }
-        return set;
-    }
-
-    private static long packed(String text) {
-        long number = 0;
-        for (char sign : text.toCharArray()) {
-            number = number << 8 | sign;
-        }
-        return number;
-    }
-
-    private static void write(BidLanguage x, String text) {
-        x.wipe();
-        for (int i = 0; i < text.length(); i += 8) {
-            int end = Math.min(text.length(), i + 8);
-            due("put of '" + text.substring(i, end) + "'", x.put(packed(text.substring(i, end))), end);
-        }
-    }
-
-    private static void dueFault(String text, int want) {
-        BidLanguage x = new BidLanguage();
-        write(x, text);
-        due("fault of '" + text + "'", x.fault(), want);
-        due("fault of '" + text + "' again", x.fault(), want);
-        due("pad after the fault of '" + text + "'", x.state(7), text.length());
-        due("load of '" + text + "'", x.load(), want == NONE ? 0 : BAD_TEXT);
-        due("pad after the load of '" + text + "'", x.state(7), want == NONE ? 0 : text.length());
-        due("rules after the load of '" + text + "'", x.state(6), want == NONE ? 1 : 0);
-    }
-
-    private static void dueParts(BidLanguage x, int rule, int... want) {
-        for (int what = 0; what < want.length; what++) {
-            due("part(" + rule + ", " + what + ")", x.part(rule, what), want[what]);
-        }
-    }
-
-    /** The numbers of calls, state, last bid, forced, turn and ending. */
-    private static void dueAuction(String when, BidLanguage x, int... want) {
-        for (int what = 0; what < want.length; what++) {
-            due("state(" + what + ") " + when, x.state(what), want[what]);
-        }
-    }
-
-    private static void fill(BidLanguage x, int rules) {
-        for (int i = 0; i < rules; i++) {
-            due("rule " + i, x.rule(i % 8, i / 8, 0, 0), i);
-        }
-    }
-
+public final class PromiseTest extends Checks {
     /** A workshop with one call made, by which it can be seen whether the auction began anew. */
     private static BidLanguage inAuction() {
         BidLanguage x = new BidLanguage();
@@ -84,11 +7,6 @@ public final class PromiseTest {
         x.rule(1, 9, 0, 0);
         due("make(3)", x.make(3), 1);
         return x;
-    }
-
-    private static void dueAnew(String after, BidLanguage x) {
-        dueAuction("after " + after, x, 0, 0, NONE, 0, 0, 0);
-        due("made after " + after, x.made(0, 0), NONE);
     }
 
     private static void dueGoesOn(String after, BidLanguage x) {
@@ -229,12 +147,6 @@ public final class PromiseTest {
         dueAnew("a move that changed nothing", y);
     }
 
-    private static void dueCalls(BidLanguage x, int... want) {
-        for (int i = 0; i < want.length; i++) {
-            due("call of rule " + i, x.part(i, 1), want[i]);
-        }
-    }
-
     private static void part() {
         BidLanguage x = new BidLanguage();
         x.rule(6, 17, 5, 1);
@@ -298,20 +210,6 @@ public final class PromiseTest {
         dueAnew("draw", y);
     }
 
-    private static int[] drawn(int seed) {
-        java.util.List<Integer> left = new java.util.ArrayList<>();
-        for (int card = 0; card < 20; card++) {
-            left.add(card);
-        }
-        int[] hands = new int[2];
-        long z = seed;
-        for (int k = 0; k < 10; k++) {
-            z = (z * 1103 + 12345) % 65536;
-            hands[k / 5] |= 1 << left.remove((int) (z % left.size()));
-        }
-        return hands;
-    }
-
     private static void hand() {
         BidLanguage x = new BidLanguage();
         int given = cards("c41 d0 s32");
@@ -369,19 +267,6 @@ public final class PromiseTest {
         due("call() after 12", y.call(), NOT_POSSIBLE);
         y.back();
         due("call 11 again", y.call(), 12);
-    }
-
-    /** An auction of 12 calls, 1 to 12, in state 0. */
-    private static BidLanguage twelve() {
-        BidLanguage x = new BidLanguage();
-        for (int bid = 1; bid <= 13; bid++) {
-            x.rule(0, bid, 0, 0);
-        }
-        for (int bid = 1; bid <= 12; bid++) {
-            due("call()", x.call(), bid);
-        }
-        dueAuction("after 12", x, 12, 0, 12, 0, 0, 1);
-        return x;
     }
 
     private static void make() {
@@ -1078,9 +963,6 @@ public final class PromiseTest {
         faultOfConditions();
         faultOfStrength();
         load();
-        System.out.println("PromiseTest: " + asked + " answers, " + wrong + " wrong");
-        if (wrong != 0) {
-            System.exit(1);
-        }
+        finish("PromiseTest");
     }
 }
