@@ -13,6 +13,9 @@ abstract class Checks {
     static final int ALL_CARDS = 1048575;
     static final int LEAST_INT = Integer.MIN_VALUE;
     static final int GREATEST_INT = Integer.MAX_VALUE;
+    /** Sets with too few or too many cards, and numbers with bits that are no cards. */
+    static final int[] NO_HANDS = {0, 1, 15, 63, ALL_CARDS, 1 << 20, 15 | 1 << 20, 31 | 1 << 20, 31 << 16,
+        15 | LEAST_INT, 31 | LEAST_INT, -1, -32, LEAST_INT, GREATEST_INT};
     /** How many of all hands have each length in a suit: C(5, length) * C(15, 5 - length). */
     static final int[] OF_LENGTH = {3003, 6825, 4550, 1050, 75, 1};
 

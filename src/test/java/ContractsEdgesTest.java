@@ -123,14 +123,13 @@ public final class ContractsEdgesTest extends Checks {
                 due("strain " + bad, x.tricks(bad, 31, 31 << 5), BAD_VALUE);
             }
         });
-        int[] noHands = {0, 15, 63, ALL_CARDS, 31 << 16, 31 | LEAST_INT, 15 | LEAST_INT, -1, GREATEST_INT};
         sentence("Promise 22: BAD_VALUE if one is not a set of 5 cards of the pack", x -> {
-            for (int bad : noHands) {
+            for (int bad : NO_HANDS) {
                 due("one " + bad, x.tricks(0, bad, 31 << 10), BAD_VALUE);
             }
         });
         sentence("Promise 22: BAD_VALUE if other is not a set of 5 cards of the pack", x -> {
-            for (int bad : noHands) {
+            for (int bad : NO_HANDS) {
                 due("other " + bad, x.tricks(0, 31 << 10, bad), BAD_VALUE);
             }
         });
@@ -261,6 +260,11 @@ public final class ContractsEdgesTest extends Checks {
         return shows(own, exactly, exactly, 1, sums);
     }
 
+    /** One trick and more with suit 0 alone: 59 by 35. */
+    private static BidLanguage lowest() {
+        return shows("c0 d20 s32", of(2, 0, 0, 0, 2), of(2, 2, 3, 2, 6), 35, 59, 39, 26, 54, 3);
+    }
+
     private static int[] of(int... numbers) {
         return numbers;
     }
@@ -273,29 +277,36 @@ public final class ContractsEdgesTest extends Checks {
             due("0 and 1", showsOne("c21 d3 h32", of(1, 3, 0, 1, 3), 2, 2, 1, 1, 0).contract(1), 6);
             due("0 and 2", showsOne("c42 h421", of(1, 2, 1, 1, 1), 4, 2, 4, 2, 2).contract(1), 17);
             due("0 and 3", showsOne("c42 d0 h0 s4", of(2, 0, 0, 3, 4), 4, 2, 2, 4, 2).contract(1), 18);
-            due("1 and 2", shows("c40 d1 h2 s2", of(0, 2, 3, 0, 11), of(0, 2, 3, 0, 11), 4, 15, 20, 20, 15, 15).contract(1), 22);
+            int[] shown = of(0, 2, 3, 0, 11);
+            due("1 and 2", shows("c40 d1 h2 s2", shown, shown, 4, 15, 20, 20, 15, 15).contract(1), 22);
         });
         sentence("Promise 24: of several strains with the greatest sum the greatest, with one trick", x -> {
             due("1, 2 and 3", showsOne("c0 d2 h20 s3", of(0, 3, 1, 1, 5), 0, 1, 1, 1, 0).contract(1), 3);
             due("all five", showsOne("d420 h3 s2", of(0, 1, 3, 1, 4), 1, 1, 1, 1, 1).contract(1), 4);
         });
         sentence("Promise 24: the strain with the greatest sum, if it is the only one", x -> {
-            due("0", shows("c0 d20 s32", of(2, 0, 0, 0, 2), of(2, 2, 3, 2, 6), 35, 59, 39, 26, 54, 3).contract(1), 0);
+            due("0", lowest().contract(1), 0);
         });
         sentence("Promise 24: the tricks are divided and rounded down", x -> {
-            due("9 by 2", shows("c0 d0 h1 s20", of(0, 0, 3, 2, 12), of(0, 0, 3, 2, 12), 2, 5, 5, 9, 9, 5).contract(1), 18);
-            due("5 by 3", shows("c3 d41 s31", of(3, 1, 0, 1, 4), of(3, 1, 0, 1, 5), 3, 5, 5, 5, 5, 5).contract(1), 4);
+            int[] two = of(0, 0, 3, 2, 12);
+            due("9 by 2", shows("c0 d0 h1 s20", two, two, 2, 5, 5, 9, 9, 5).contract(1), 18);
+            int[] least = of(3, 1, 0, 1, 4);
+            due("5 by 3", shows("c3 d41 s31", least, of(3, 1, 0, 1, 5), 3, 5, 5, 5, 5, 5).contract(1), 4);
         });
         sentence("Promise 24: NONE if the tricks are 0, also with a sum that is not 0", x -> {
-            due("no tricks at all", withoutTricks().contract(1), NONE);
-            due("3 by 4", shows("d20 h31 s1", of(0, 1, 1, 3, 7), of(0, 1, 1, 3, 8), 4, 3, 3, 3, 3, 3).contract(1), NONE);
+            due("no tricks at all, four hands", withoutTricks().contract(1), NONE);
+            BidLanguage one = showsOne("c32 d3 h3 s3", of(2, 1, 1, 1, 1), 0, 0, 0, 0, 0);
+            due("no tricks at all, one hand", one.contract(1), NONE);
+            int[] least = of(0, 1, 1, 3, 7);
+            due("3 by 4", shows("d20 h31 s1", least, of(0, 1, 1, 3, 8), 4, 3, 3, 3, 3, 3).contract(1), NONE);
         });
         sentence("Promise 24: a contract if the sum is just the number of hands", x -> {
-            due("3 by 3", shows("c1 d1 h3 s20", of(2, 2, 0, 1, 5), of(2, 2, 0, 1, 6), 3, 3, 3, 0, 3, 0).contract(1), 3);
+            int[] least = of(2, 2, 0, 1, 5);
+            due("3 by 3", shows("c1 d1 h3 s20", least, of(2, 2, 0, 1, 6), 3, 3, 3, 0, 3, 0).contract(1), 3);
         });
         sentence("Promise 24: the bids go from 0, one trick with suit 0, to 24, five with no trumps", x -> {
             due("the highest", x.contract(1), 24);
-            due("the lowest", shows("c0 d20 s32", of(2, 0, 0, 0, 2), of(2, 2, 3, 2, 6), 35, 59, 39, 26, 54, 3).contract(1), 0);
+            due("the lowest", lowest().contract(1), 0);
         });
         sentence("Promise 24: NONE if there are no such hands", x -> {
             x.rule(0, 0, 1, 0);

@@ -1,6 +1,6 @@
 import java.util.function.Consumer;
 
-/** The sentences on cards, rules, auctions and what is told; a hand of five cards of one suit is written as 31 shifted. */
+/** The sentences on cards, rules and auctions. All five cards of a suit are written as 31, shifted by 5 a suit. */
 public final class DescriptionEdgesTest extends Checks {
 
     // ---- cards

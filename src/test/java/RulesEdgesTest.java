@@ -313,7 +313,7 @@ public final class RulesEdgesTest extends Checks {
             dueParts(x, 0, 6, 17, 5, 1);
             dueParts(x, 1, 7, PASS, 0, 0);
         });
-        sentence("Promise 6: 4 and 5 the length in the suit 0, 6 to 11 in the suits 1 to 3, 12 and 13 the strength", x -> {
+        sentence("Promise 6: 4 and 5 the length in the suit 0, 6 to 11 in 1 to 3, 12 and 13 the strength", x -> {
             x.rule(0, 0, 0, 0);
             x.limit(0, 0, 0, 3);
             x.limit(0, 1, 1, 5);

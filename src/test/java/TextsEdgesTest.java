@@ -90,6 +90,13 @@ public final class TextsEdgesTest extends Checks {
             dueFault("0:p>0,+0-100", 11);
             dueFault("0:p>0,+0-200", 11);
         });
+        sentence("Texts: only digits belong to a strength, at each place of a number", x -> {
+            dueOneOf("0:p>0,+", "0123456789", "-20");
+            dueOneOf("0:p>0,+1", "0123456789", "-20", "-");
+            dueOneOf("0:p>0,+1-", "123456789", "");
+            dueOneOf("0:p>0,+1-1", "0123456789", "", ",");
+            dueOneOf("0:p>0,+1-20", ",", "c0-5");
+        });
         sentence("Texts: between the numbers stands a '-'", x -> {
             dueOneOf("0:p>0,c1", "-", "2");
             dueFault("0:p>0,+1--2", 9);

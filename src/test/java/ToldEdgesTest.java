@@ -209,7 +209,7 @@ public final class ToldEdgesTest extends Checks {
     }
 
     private static void shownEdges() {
-        sentence("Promise 17: of all hands the lengths are 0 to 5, the strengths 1 to 19, the cards none and all", x -> {
+        sentence("Promise 17: all hands have lengths 0 to 5, strengths 1 to 19, no and all cards", x -> {
             dueShown(x, 0, 0, 0, 5, 0, 5, 0, 5, 0, 5, 1, 19, 0, ALL_CARDS);
             dueShown(x, 1, 0, 0, 5, 0, 5, 0, 5, 0, 5, 1, 19, 0, ALL_CARDS);
         });
@@ -233,7 +233,8 @@ public final class ToldEdgesTest extends Checks {
             x.limit(0, 0, 4, 4);
             makeAll(x, 0);
             int known = cards("c0 d0123 h0123 s012");
-            dueShown(x, 0, known, 4, 4, 0, 1, 0, 1, 0, 1, 13, 14, cards("c1234"), cards("c1234 d4 h4 s34"));
+            int some = cards("c1234 d4 h4 s34");
+            dueShown(x, 0, known, 4, 4, 0, 1, 0, 1, 0, 1, 13, 14, cards("c1234"), some);
             known = cards("d0123 h01234 s01234");
             dueShown(x, 0, known, 4, 4, 1, 1, 0, 0, 0, 0, 10, 14, cards("d4"), cards("c01234 d4"));
         });
@@ -279,7 +280,7 @@ public final class ToldEdgesTest extends Checks {
             }
         });
         sentence("Promise 18: BAD_VALUE if hand is not a set of 5 cards of the pack", x -> {
-            for (int bad : new int[] {0, 15, 63, ALL_CARDS, 31 << 16, 31 | LEAST_INT, 15 | LEAST_INT, -1, GREATEST_INT}) {
+            for (int bad : NO_HANDS) {
                 due("hand " + bad, x.fits(0, bad), BAD_VALUE);
             }
         });
@@ -304,7 +305,7 @@ public final class ToldEdgesTest extends Checks {
         sentence("Promise 19: BAD_VALUE if hand is not a set of 5 cards of the pack", x -> {
             x.rule(0, 0, 0, 0);
             due("the highest hand", x.ruleOf(31 << 15), 0);
-            for (int bad : new int[] {0, 15, 63, ALL_CARDS, 31 << 16, 31 | LEAST_INT, 15 | LEAST_INT, -1, GREATEST_INT}) {
+            for (int bad : NO_HANDS) {
                 due("hand " + bad, x.ruleOf(bad), BAD_VALUE);
             }
         });
@@ -391,6 +392,14 @@ public final class ToldEdgesTest extends Checks {
             due("24", x.holes(0, 24, 0), ALL);
             for (int bad : new int[] {-1, -5, -7, PASS, LEAST_INT, GREATEST_INT}) {
                 due("last " + bad, x.holes(0, bad, 0), BAD_VALUE);
+            }
+        });
+        sentence("Promise 21: each last bid goes with each state", x -> {
+            for (int state = 0; state < 8; state++) {
+                x.rule(state, 10, 0, 0);
+                for (int last = 0; last <= 24; last++) {
+                    due(last + " in " + state, x.holes(state, last, 1), last < 10 ? 0 : ALL);
+                }
             }
         });
         sentence("Promise 21: with no last bid the bid 0 is open, with the last bid 0 it is not", x -> {
